@@ -24,7 +24,9 @@ public final class PromisesTest {
         promise11Sum();
         promise12Rows();
         promise13Places();
+        placesUsedBeforeAreCleared();
         pushingTogetherKeepsEveryRow();
+        pushingTogetherMovesTheRowThatGrows();
         objectsShareNothing();
         answers.end();
     }
@@ -482,6 +484,47 @@ public final class PromisesTest {
         for (int i = lengths.length - 1; i >= 0; i--) {
             x.resize(row, lengths[i]);
             answers.due("places() cut to " + lengths[i], x.places(), places[i]);
+        }
+    }
+
+    private static void placesUsedBeforeAreCleared() {
+        ByteShelf x = fullShelf();
+        for (int row = 0; row < 25; row++) {
+            x.fill(row, 0, x.size(row), 1);
+        }
+        int zeros = 7;
+        for (int i = 0; i < 16384; i++) {
+            zeros = 31 * zeros;
+        }
+        for (int row = 0; row < 24; row++) {
+            x.give(row);
+            answers.due("take where bytes were", x.take(16384), row);
+            answers.due("take where bytes were: sum", x.sum(row), zeros);
+            x.fill(row, 0, 16384, 2);
+        }
+    }
+
+    /** A row that grows is pushed together with the others, and only then moved to its new places. */
+    private static void pushingTogetherMovesTheRowThatGrows() {
+        ByteShelf x = fullShelf();
+        for (int row = 0; row < 24; row++) {
+            x.fill(row, 0, 16384, row);
+        }
+        x.give(0);
+        x.resize(5, 4000);
+        x.resize(6, 4000);
+        int grows = x.sum(5);
+        for (int n = 4001; n < 16000; n += 500) {
+            answers.due("resize(5, " + n + ")", x.resize(5, n), n);
+            answers.due("resize(6, " + n + ")", x.resize(6, n), n);
+            answers.due("resize(5, 4000)", x.resize(5, 4000), 4000);
+            answers.due("the row that grew", x.sum(5), grows);
+            answers.due("resize(6, 4000)", x.resize(6, 4000), 4000);
+        }
+        for (int row = 1; row < 24; row++) {
+            x.resize(row, 4000);
+            answers.due("first byte of row " + row, x.get(row, 0), row);
+            answers.due("byte 3999 of row " + row, x.get(row, 3999), row + 7 * 3999 + 15 & 255);
         }
     }
 
