@@ -157,25 +157,24 @@ public final class PromisesTest {
     @Says("Promise 4: new ones 0, where bytes were cut off in the row's places")
     static void promise04CutOffInItsPlaces() {
         for (int n = 0; n <= 8; n++) {
-            ByteShelf x = new ByteShelf();
-            x.take(8);
-            x.fill(0, 0, 8, 1);
-            x.resize(0, n);
-            x.resize(0, 8);
-            rowIs("cut to " + n, x, 0, Arrays.copyOf(Shelves.filled(n, 1), 8));
+            cutAndGrown(8, n);
         }
     }
 
     @Says("Promise 4: new ones 0, where bytes were cut off beyond the row's places")
     static void promise04CutOffBeyond() {
         for (int n : new int[] {0, 1, 8, 9, 39}) {
-            ByteShelf x = new ByteShelf();
-            x.take(40);
-            x.fill(0, 0, 40, 1);
-            x.resize(0, n);
-            x.resize(0, 40);
-            rowIs("cut to " + n, x, 0, Arrays.copyOf(Shelves.filled(n, 1), 40));
+            cutAndGrown(40, n);
         }
+    }
+
+    private static void cutAndGrown(int length, int n) {
+        ByteShelf x = new ByteShelf();
+        x.take(length);
+        x.fill(0, 0, length, 1);
+        x.resize(0, n);
+        x.resize(0, length);
+        rowIs("cut to " + n, x, 0, Arrays.copyOf(Shelves.filled(n, 1), length));
     }
 
     @Says("Promise 4: FULL (it stays as it was)")
@@ -349,13 +348,14 @@ public final class PromisesTest {
 
     @Says("Promise 8: Byte i of a row, 0 .. 255.")
     static void promise08Get() {
-        ByteShelf x = new ByteShelf();
-        x.take(2);
+        ByteShelf x = Shelves.of(8, 2);
+        // Not all 256: a put and a get for each would be more calls than an object is used for.
         for (int b = 0; b < 256; b += b == 4 ? 120 : 1) {
-            x.put(0, 1, b);
-            answers.due("get of " + b, x.get(0, 1), b);
+            x.put(1, 1, b);
+            answers.due("get of " + b, x.get(1, 1), b);
         }
-        answers.due("the byte beside", x.get(0, 0), 0);
+        answers.due("the byte before", x.get(1, 0), 1);
+        answers.due("byte 1 of the row before", x.get(0, 1), 7);
     }
 
     @Says("Promise 8: Byte i of a row: the first to the last, none beyond")

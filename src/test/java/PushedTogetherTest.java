@@ -117,6 +117,20 @@ public final class PushedTogetherTest {
         }
     }
 
+    @Says("pushed together whenever it is full: a row keeps all its places, rounded up")
+    static void rowsKeepTheirPlaces() {
+        ByteShelf x = rowsOf(40, 9993);
+        x.give(0);
+        takesZeros(x, 9993, 0);
+        for (int row = 1; row < 40; row++) {
+            answers.due("resize(" + row + ", 10000)", x.resize(row, 10000), 10000);
+        }
+        for (int row = 1; row < 40; row++) {
+            byte[] grown = Arrays.copyOf(Shelves.filled(9993, row), 10000);
+            answers.due("row " + row, Shelves.seenRow(x, row), Shelves.seenRow(grown));
+        }
+    }
+
     @Says("resize: the first ones as they were, of a row that is itself pushed together")
     static void theRowThatGrowsIsMoved() {
         ByteShelf x = Shelves.full();

@@ -5,7 +5,9 @@ public final class RefusedTest {
     private static final int HIGH = Shelves.HIGH;
     // Of the rows of the shelf that the calls are made on, 1 and 4 are given back.
     private static final int[] LENGTHS = {13, 5, 0, 16, 9};
-    private static final int[] NO_ROWS = {LOW, -1, 1, 4, 5, 6, 19999, 20000, 20001, HIGH};
+    // The last ones would be row 0 if only their low bits were looked at.
+    private static final int[] NO_ROWS = {LOW, -1, 1, 4, 5, 6, 19999, 20000, 20001, HIGH,
+        1 << 8, 1 << 15, 1 << 16, 1 << 24, -(1 << 16)};
     // Row 0 has 13 bytes in 16 places: what lies between is no byte of it.
     private static final int[] NO_BYTES_OF_13 = {LOW, LOW + 1, -1, 13, 14, 15, 16, HIGH - 1, HIGH};
     private static final Answers answers = new Answers();
